@@ -555,7 +555,7 @@ public final class LoopStrands {
 
     /** All DIAGRAMS of so many strands. What is STACKED is found when it is first asked for. */
     private static final class Diagrams {
-        private static final int PACK = 8;
+        static final int PACK = 8;
 
         final int many;
         final int points;
@@ -618,7 +618,7 @@ public final class LoopStrands {
             for (int next = 0; next < texts.size; next++) {
                 int from = reached[next];
                 for (int hook = 1; hook < many; hook++) {
-                    int made = stackDiagram(from, hooks[hook]);
+                    int made = packedStack(from, hooks[hook]) / PACK;
                     if (steps[made] == NOT_YET && number < reached.length) {
                         steps[made] = steps[from] + 1;
                         before[made] = from;
@@ -675,7 +675,8 @@ public final class LoopStrands {
             return packedStack(one, other) % PACK;
         }
 
-        private int packedStack(int one, int other) {
+        /** The DIAGRAM and, below it, the LOOPS, in one number. */
+        int packedStack(int one, int other) {
             int key = one * texts.size + other;
             if (stacked[key] == NOT_YET) {
                 int[] upper = texts.rows[one];
@@ -854,22 +855,17 @@ public final class LoopStrands {
         void pile(State now, int[] to, int[] one, int[] other) {
             Arrays.fill(result, 0);
             for (int i = 0; i < now.shape.texts.size; i++) {
-                if (one[i] != 0) {
-                    pileDiagram(now, i, one[i], other);
+                for (int j = 0; j < now.shape.texts.size; j++) {
+                    if (one[i] != 0 && other[j] != 0) {
+                        int packed = now.shape.packedStack(i, j);
+                        int made = packed / Diagrams.PACK;
+                        int loops = now.numbers.loopPower(packed % Diagrams.PACK);
+                        int product = now.numbers.multiply(now.numbers.multiply(one[i], other[j]), loops);
+                        result[made] = now.numbers.add(result[made], product);
+                    }
                 }
             }
             System.arraycopy(result, 0, to, 0, MOST_DIAGRAMS);
-        }
-
-        private void pileDiagram(State now, int diagram, int v, int[] other) {
-            for (int i = 0; i < now.shape.texts.size; i++) {
-                if (other[i] != 0) {
-                    int made = now.shape.stackDiagram(diagram, i);
-                    int loops = now.numbers.loopPower(now.shape.stackLoops(diagram, i));
-                    int product = now.numbers.multiply(now.numbers.multiply(v, other[i]), loops);
-                    result[made] = now.numbers.add(result[made], product);
-                }
-            }
         }
 
         int close(State now, int[] sum) {
