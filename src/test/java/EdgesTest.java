@@ -85,7 +85,8 @@ public final class EdgesTest {
     }
 
     private static void firstThatFits() {
-        sentence("Calls that are refused answer the first that fits, in the order in which they are told with the call");
+        sentence("Calls that are refused answer the first that fits, in the order in which they are told with the"
+                + " call");
         LoopStrands x = new LoopStrands();
         due("of(5, 4)", x.of(5, 4), UNKNOWN);
         due("of(-1, -1)", x.of(-1, -1), UNKNOWN);
@@ -303,7 +304,8 @@ public final class EdgesTest {
     }
 
     private static void hooks() {
-        sentence("HOOK i, 1 to MANY less 1, joins POINTS i less 1 and i, those below these, and all others as ONE does.");
+        sentence("HOOK i, 1 to MANY less 1, joins POINTS i less 1 and i, those below these, and all others as ONE"
+                + " does.");
         for (int many = 1; many <= 5; many++) {
             LoopStrands x = of(many);
             String at = "MANY " + many + ", ";
@@ -388,7 +390,8 @@ public final class EdgesTest {
     }
 
     private static void faults() {
-        sentence("the place, from 0 on, of the first sign by which no such text can begin that has all signs before it, too");
+        sentence("the place, from 0 on, of the first sign by which no such text can begin that has all signs before"
+                + " it, too");
         for (int many = 1; many <= 5; many++) {
             LoopStrands x = of(many);
             String at = "MANY " + many + ", ";
@@ -453,10 +456,17 @@ public final class EdgesTest {
         due("prime(103, 0)", x.prime(103, 0), OUTSIDE);
         due("prime(101, 0)", x.prime(101, 0), 2);
         due("prime(100, 0)", x.prime(100, 0), OUTSIDE);
-        for (int square : new int[] {4, 9, 25, 49}) {
-            due("prime(" + square + ", 0)", x.prime(square, 0), OUTSIDE);
+        for (int one = 2; one <= 10; one++) {
+            for (int other = one; one * other <= 101; other++) {
+                due("prime(" + one * other + ", 0)", x.prime(one * other, 0), OUTSIDE);
+            }
         }
         due("count(2)", x.count(2), 101);
+        int[] primes = {2, 3, 5, 7, 11, 13, 17, 19, 23, 29, 31, 37, 41, 43, 47, 53, 59, 61, 67, 71, 73, 79, 83, 89, 97,
+            101};
+        for (int i = 0; i < primes.length; i++) {
+            due("prime(" + primes[i] + ", 0)", x.prime(primes[i], 0), i == 0 ? 101 : primes[i - 1]);
+        }
         for (int prime : new int[] {2, 3, 97, 101}) {
             LoopStrands y = of(3, prime, 0);
             String at = "by " + prime + ", ";
@@ -612,7 +622,8 @@ public final class EdgesTest {
     }
 
     private static void traces() {
-        sentence("TRACE of a SUM: the products of NUMBERS and of LOOP as often as there are LOOPS of the DIAGRAM CLOSED, added.");
+        sentence("TRACE of a SUM: the products of NUMBERS and of LOOP as often as there are LOOPS of the DIAGRAM"
+                + " CLOSED, added.");
         for (int many = 1; many <= 5; many++) {
             LoopStrands x = of(many, 101, 3);
             String at = "MANY " + many + ", ";
@@ -637,7 +648,8 @@ public final class EdgesTest {
     }
 
     private static void brackets() {
-        sentence("BRACKET of k: of 0 it is 0, of 1 it is 1, of each other one LOOP times that of k less 1, less that of k less 2.");
+        sentence("BRACKET of k: of 0 it is 0, of 1 it is 1, of each other one LOOP times that of k less 1, less that"
+                + " of k less 2.");
         for (int loop = 0; loop < 5; loop++) {
             LoopStrands x = of(3, 5, loop);
             String at = "LOOP " + loop + " by 5, ";
@@ -683,7 +695,8 @@ public final class EdgesTest {
     private static void noProjector() {
         sentence("There is one of n as long as no BRACKET of 2 to n is 0.");
         // PRIME, LOOP, the least k of 2 or more whose BRACKET is 0
-        int[][] cases = {{97, 0, 2}, {2, 0, 2}, {97, 1, 3}, {97, 96, 3}, {2, 1, 3}, {3, 2, 3}, {7, 3, 4}, {5, 2, 5}, {11, 4, 5}, {7, 2, 7}};
+        int[][] cases = {{97, 0, 2}, {2, 0, 2}, {97, 1, 3}, {97, 96, 3}, {2, 1, 3}, {3, 2, 3}, {7, 3, 4}, {5, 2, 5},
+            {11, 4, 5}, {7, 2, 7}};
         for (int[] one : cases) {
             LoopStrands x = of(5, one[0], one[1]);
             String at = "LOOP " + one[1] + " by " + one[0] + ", ";
@@ -741,7 +754,8 @@ public final class EdgesTest {
     }
 
     private static void forms() {
-        sentence("if each way from an open one of x comes to an open one of y, LOOP as often as there are closed LOOPS, else 0");
+        sentence("if each way from an open one of x comes to an open one of y, LOOP as often as there are closed"
+                + " LOOPS, else 0");
         for (int many = 1; many <= 5; many++) {
             String at = "MANY " + many + ", ";
             due(at + "all open, no LOOPS, LOOP 0 by 2", of(many, 2, 0).form(many, 0, 0), 1);
@@ -846,7 +860,8 @@ public final class EdgesTest {
         due("empty, diagram()", x.diagram(), FAULT);
         due("()()() diagram()", told(x, "()()()").diagram(), 4);
         due("the PAD takes signs again", x.say('('), 1);
-        sentence("Of the WORD on THE PAD, which stays: the DIAGRAM that it makes (what = 0), its LOOPS (1). OUTSIDE; FAULT.");
+        sentence("Of the WORD on THE PAD, which stays: the DIAGRAM that it makes (what = 0), its LOOPS (1). OUTSIDE;"
+                + " FAULT.");
         told(x, "2");
         due("2, word(0)", x.word(0), 1);
         due("2, word(1)", x.word(1), 0);
@@ -862,7 +877,8 @@ public final class EdgesTest {
     }
 
     private static void promises8To11() {
-        sentence("Of a DIAGRAM: THROUGH (what = 0), LOOPS of it CLOSED (1), it TURNED (2), how many HOOKS its WAY has (3). UNKNOWN; OUTSIDE.");
+        sentence("Of a DIAGRAM: THROUGH (what = 0), LOOPS of it CLOSED (1), it TURNED (2), how many HOOKS its WAY has"
+                + " (3). UNKNOWN; OUTSIDE.");
         LoopStrands x = new LoopStrands();
         int[] want = {1, 1, 3, 2};
         for (int what = 0; what <= 3; what++) {
@@ -889,7 +905,8 @@ public final class EdgesTest {
         due("stack(4, 5, 0)", x.stack(4, 5, 0), UNKNOWN);
         due("stack(-1, 4, 1)", x.stack(-1, 4, 1), UNKNOWN);
         due("stack(4, -1, 1)", x.stack(4, -1, 1), UNKNOWN);
-        sentence("The i-th HOOK, from 0 on, of the WAY to a DIAGRAM; NONE: there is none such (i below 0, too). UNKNOWN.");
+        sentence("The i-th HOOK, from 0 on, of the WAY to a DIAGRAM; NONE: there is none such (i below 0, too)."
+                + " UNKNOWN.");
         due("way(2, -1)", x.way(2, -1), NONE);
         due("way(2, LOW)", x.way(2, LOW), NONE);
         due("way(2, 0)", x.way(2, 0), 2);
@@ -941,7 +958,8 @@ public final class EdgesTest {
 
     /** What both() answers for slots 0 and 1 is due for a SLOT that is itself one of the two, or both. */
     private static void promise15() {
-        sentence("A SLOT holds, of two SUMS, both added, DIAGRAM by DIAGRAM (way = 0), the one less the other (1), the one STACKED on the other (2)");
+        sentence("A SLOT holds, of two SUMS, both added, DIAGRAM by DIAGRAM (way = 0), the one less the other (1),"
+                + " the one STACKED on the other (2)");
         int[][] sums = {{5, 4, 0, 2, 6}, {2, 0, 3, 6, 1}};
         int[][] onePlusOne = {{3, 1, 0, 4, 5}, {0, 0, 0, 0, 0}};
         for (int way = 0; way <= 2; way++) {
@@ -995,7 +1013,8 @@ public final class EdgesTest {
     }
 
     private static void promises16To18() {
-        sentence("A SLOT holds a SUM of which each NUMBER is v (a NUMBER) times as great: how many NUMBERS above 0. UNKNOWN: both; OUTSIDE.");
+        sentence("A SLOT holds a SUM of which each NUMBER is v (a NUMBER) times as great: how many NUMBERS above 0."
+                + " UNKNOWN: both; OUTSIDE.");
         int[][] sums = {{5, 4, 0, 2, 6}};
         LoopStrands x = withSums(sums);
         due("times(1, 0, 6)", x.times(1, 0, 6), 4);
@@ -1021,6 +1040,14 @@ public final class EdgesTest {
             due("the same SLOT, at(0, " + d + ")", y.at(0, d), want[d]);
         }
         due("nothing, turn(4, 3)", y.turn(4, 3), 0);
+        LoopStrands w = of(5);
+        w.project(0, 5);
+        w.turn(1, 0);
+        w.strands(2);
+        w.put(0, 1, 1);
+        due("fewer DIAGRAMS than before, turn(1, 0)", w.turn(1, 0), 1);
+        due("fewer DIAGRAMS than before, both(1, 0, 0, 2)", w.both(1, 0, 0, 2), 1);
+        due("fewer DIAGRAMS than before, project(1, 2)", w.project(1, 2), 2);
         due("turn(5, 0)", y.turn(5, 0), UNKNOWN);
         due("turn(0, 5)", y.turn(0, 5), UNKNOWN);
         due("turn(-1, 0)", y.turn(-1, 0), UNKNOWN);
@@ -1100,7 +1127,8 @@ public final class EdgesTest {
         due("restore(1)", x.restore(1), 1);
         due("in place of what was kept, count(0)", x.count(0), 1);
         slotsHold("in place of what was kept", x, 0);
-        sentence("All but THE PAD and IMAGES is as it was when it was kept; the IMAGE stays: 1. OUTSIDE; STATE: nothing was kept in it.");
+        sentence("All but THE PAD and IMAGES is as it was when it was kept; the IMAGE stays: 1. OUTSIDE; STATE:"
+                + " nothing was kept in it.");
         LoopStrands y = told(of(2, 5, 3), "11");
         fillSlots(y);
         y.put(4, 1, 4);
@@ -1111,7 +1139,7 @@ public final class EdgesTest {
         due("restore(2)", y.restore(2), OUTSIDE);
         told(y, "1").put(4, 1, 2);
         y.strands(5);
-        y.prime(101, 100);
+        y.prime(101, 10);
         y.put(0, 41, 77);
         due("image(1)", y.image(1), 1);
         for (int again = 0; again < 2; again++) {
@@ -1123,12 +1151,16 @@ public final class EdgesTest {
             slotsHold("restored", y, 1);
             due("restored, at(4, 1)", y.at(4, 1), 4);
             due("restored, trace(4)", y.trace(4), (9 + 4 * 3) % 5);
+            due("restored, form(0, 0, 0)", y.form(0, 0, 0), 3);
             due("restored, put(4, 1, 0)", y.put(4, 1, 0), 4);
         }
         due("restore(1)", y.restore(1), 1);
         due("at(0, 41)", y.at(0, 41), 77);
-        due("bracket(2)", y.bracket(2), 100);
-        sentence("MANY (what = 0), DIAGRAMS (1), PRIME (2), LOOP (3), signs of THE PAD (4), which IMAGES are kept (5: 1 the first, 2 the second, added). OUTSIDE.");
+        due("bracket(2)", y.bracket(2), 10);
+        due("trace(0)", y.trace(0), 77 * 1000 % 101);
+        due("form(1, 0, 0)", y.form(1, 0, 0), 100);
+        sentence("MANY (what = 0), DIAGRAMS (1), PRIME (2), LOOP (3), signs of THE PAD (4), which IMAGES are kept (5:"
+                + " 1 the first, 2 the second, added). OUTSIDE.");
         LoopStrands z = new LoopStrands();
         due("count(-1)", z.count(-1), OUTSIDE);
         due("count(6)", z.count(6), OUTSIDE);

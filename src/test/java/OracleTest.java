@@ -12,8 +12,7 @@ import java.util.Random;
  * among all WORDS by length and order, and DETERMINANT and RANK are worked out by minors. PROJECTORS follow the
  * same rule in both, so what they must do to HOOKS is looked at in PromisesTest.
  *
- * The loops over all DIAGRAMS, cells and PROJECTORS use one object for more than the document's 512 calls: it
- * promises nothing there, but this program answers alike.
+ * No object is used for more than the document's 512 calls.
  */
 public final class OracleTest {
     private static final int UNKNOWN = -1, OUTSIDE = -2, STATE = -3, FULL = -4, NONE = -6, FAULT = -7;
@@ -615,13 +614,18 @@ public final class OracleTest {
 
     // ---- all of what is told of diagrams and halves
 
-    private static void everyDiagram(int many) {
+    private static LoopStrands made(int many) {
         LoopStrands x = new LoopStrands();
         x.strands(many);
+        return x;
+    }
+
+    private static void everyDiagram(int many) {
         Model m = new Model();
         m.strands(many);
         String at = "MANY " + many + ": ";
         for (int d = -1; d <= m.size(); d++) {
+            LoopStrands x = made(many);
             for (int i = -1; i <= 10; i++) {
                 due(at + "of(" + d + ", " + i + ")", x.of(d, i), m.of(d, i));
                 due(at + "joined(" + d + ", " + i + ")", x.joined(d, i), m.joined(d, i));
@@ -634,6 +638,7 @@ public final class OracleTest {
             }
         }
         for (int d = 0; d < m.size(); d++) {
+            LoopStrands x = made(many);
             for (char c : shape(many).diagrams.get(d).toCharArray()) {
                 x.say(c);
             }
@@ -641,30 +646,27 @@ public final class OracleTest {
         }
     }
 
-    private static void everyCell(int many) {
-        LoopStrands x = new LoopStrands();
-        x.strands(many);
+    private static void everyPrimeAndLoop(int many) {
         Model m = new Model();
         m.strands(many);
         for (int prime = 2; prime <= 101; prime++) {
-            for (int loop = 0; loop < prime; loop++) {
-                due("prime(" + prime + ", " + loop + ")", x.prime(prime, loop), m.prime(prime, loop));
-                if (m.prime != prime) {
-                    break;
-                }
+            for (int loop = 0; loop < prime && m.prime(prime, loop) != OUTSIDE; loop++) {
                 String at = "MANY " + many + " PRIME " + prime + " LOOP " + loop + ": ";
-                for (int r = -1; r <= 6; r++) {
-                    for (int what = -1; what <= 3; what++) {
-                        due(at + "cell(" + r + ", " + what + ")", x.cell(r, what), m.cell(r, what));
-                    }
-                }
-                everyForm(x, m, at);
+                LoopStrands x = made(many);
+                due(at + "prime()", x.prime(prime, loop), 97);
+                everyCell(x, m, at);
+                LoopStrands y = made(many);
+                y.prime(prime, loop);
+                everyProjector(y, m, at);
             }
         }
     }
 
-    private static void everyForm(LoopStrands x, Model m, String at) {
+    private static void everyCell(LoopStrands x, Model m, String at) {
         for (int r = -1; r <= 6; r++) {
+            for (int what = -1; what <= 3; what++) {
+                due(at + "cell(" + r + ", " + what + ")", x.cell(r, what), m.cell(r, what));
+            }
             for (int i = -1; i <= 5; i++) {
                 for (int j = -1; j <= 5; j++) {
                     due(at + "form(" + r + ", " + i + ", " + j + ")", x.form(r, i, j), m.form(r, i, j));
@@ -673,29 +675,16 @@ public final class OracleTest {
         }
     }
 
-    private static void everyProjector(int many) {
-        LoopStrands x = new LoopStrands();
-        x.strands(many);
-        Model m = new Model();
-        m.strands(many);
-        for (int prime = 2; prime <= 101; prime++) {
-            for (int loop = 0; loop < prime; loop++) {
-                due("prime(" + prime + ", " + loop + ")", x.prime(prime, loop), m.prime(prime, loop));
-                if (m.prime != prime) {
-                    break;
-                }
-                String at = "MANY " + many + " PRIME " + prime + " LOOP " + loop + ": ";
-                for (int n = 0; n <= many + 1; n++) {
-                    due(at + "project(0, " + n + ")", x.project(0, n), m.project(0, n));
-                    for (int d = 0; d < m.size(); d++) {
-                        due(at + "at(0, " + d + ")", x.at(0, d), m.at(0, d));
-                    }
-                    due(at + "trace(0)", x.trace(0), m.trace(0));
-                }
-                for (int k = -1; k <= 100; k++) {
-                    due(at + "bracket(" + k + ")", x.bracket(k), m.bracket(k));
-                }
+    private static void everyProjector(LoopStrands x, Model m, String at) {
+        for (int n = 0; n <= m.many + 1; n++) {
+            due(at + "project(0, " + n + ")", x.project(0, n), m.project(0, n));
+            for (int d = 0; d < m.size(); d++) {
+                due(at + "at(0, " + d + ")", x.at(0, d), m.at(0, d));
             }
+            due(at + "trace(0)", x.trace(0), m.trace(0));
+        }
+        for (int k = -1; k <= 100; k++) {
+            due(at + "bracket(" + k + ")", x.bracket(k), m.bracket(k));
         }
     }
 
@@ -797,8 +786,7 @@ public final class OracleTest {
     public static void main(String[] args) {
         for (int many = 1; many <= 5; many++) {
             everyDiagram(many);
-            everyCell(many);
-            everyProjector(many);
+            everyPrimeAndLoop(many);
         }
         for (int seed = 0; seed < 1500; seed++) {
             new Run(seed).all(250);

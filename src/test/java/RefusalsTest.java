@@ -276,8 +276,8 @@ public final class RefusalsTest {
         int fresh = now.many == 5 ? 1 : 5;
         List<Call> changing = List.of(
                 (x, a) -> x.strands(now.many), (x, a) -> x.strands(fresh), (x, a) -> x.prime(now.prime, now.loop),
-                (x, a) -> now.pad.isEmpty() ? x.say('x') : x.wipe(), (x, a) -> x.put(4, 0, x.at(4, 0) == 0 ? 1 : 0), (x, a) -> x.image(0),
-                (x, a) -> x.image(1), (x, a) -> x.times(0, 0, 0));
+                (x, a) -> now.pad.isEmpty() ? x.say('x') : x.wipe(), (x, a) -> x.put(4, 0, x.at(4, 0) == 0 ? 1 : 0),
+                (x, a) -> x.image(0), (x, a) -> x.image(1), (x, a) -> x.times(0, 0, 0));
         for (int i = 0; i < changing.size(); i++) {
             LoopStrands x = now.make();
             changing.get(i).on(x, new int[0]);
